@@ -518,8 +518,8 @@ public final class ThresholdBench {
 
     /** Bytes, of which the first length are in use. */
     static final class Row {
-        private final byte[] bytes;
-        private int length;
+        final byte[] bytes;
+        int length;
 
         Row(int room) {
             bytes = new byte[room];
@@ -549,7 +549,7 @@ public final class ThresholdBench {
 
     /** Numbers below 2^256 as eight words, the lowest first. */
     static final class Words {
-        private static final long WORD = 0xffffffffL;
+        static final long WORD = 0xffffffffL;
 
         static void copy(int[] out, int[] a) {
             System.arraycopy(a, 0, out, 0, NUMBER_WORDS);
@@ -752,7 +752,7 @@ public final class ThresholdBench {
      * long as a * b stays below 128, so that a column of ten products stays within a long.
      */
     static final class Field {
-        private static final int LIMBS = 10;
+        static final int LIMBS = 10;
         private static final int LIMB_BITS = 26;
         private static final long LIMB = (1L << LIMB_BITS) - 1;
         private static final int TOP_BITS = 22;
@@ -981,16 +981,16 @@ public final class ThresholdBench {
 
     /** ZERO, or (x / z^2, y / z^3). A flat one is not ZERO, has normalized x and y, and 1 for z. */
     static final class Point {
-        private final long[] x = new long[Field.LIMBS];
-        private final long[] y = new long[Field.LIMBS];
-        private final long[] z = new long[Field.LIMBS];
-        private boolean zero = true;
+        final long[] x = new long[Field.LIMBS];
+        final long[] y = new long[Field.LIMBS];
+        final long[] z = new long[Field.LIMBS];
+        boolean zero = true;
     }
 
     /** A flat point and how many times it is in a sum. */
     static final class Term {
-        private final Point base = new Point();
-        private final int[] factor = new int[NUMBER_WORDS];
+        final Point base = new Point();
+        final int[] factor = new int[NUMBER_WORDS];
     }
 
     /** The curve's points. Limbs of x and y stay below 10, of z below 3 times as large as carried ones. */
@@ -1235,7 +1235,7 @@ public final class ThresholdBench {
 
     /** SHA-256. */
     static final class Sha {
-        private static final int BLOCK_BYTES = 64;
+        static final int BLOCK_BYTES = 64;
         private static final int ROUNDS = 64;
         private static final int STATE_WORDS = 8;
         private static final int[] START = {
@@ -1295,7 +1295,10 @@ public final class ThresholdBench {
             int bits = 8 * taken;
             takeByte(128);
             // The length takes eight bytes, of which the upper four are zeros here.
-            takeZeros(((BLOCK_BYTES - 8 - taken) & (BLOCK_BYTES - 1)) + 4);
+            int zeros = ((BLOCK_BYTES - 8 - taken) & (BLOCK_BYTES - 1)) + 4;
+            for (int k = 0; k < zeros; k++) {
+                takeByte(0);
+            }
             for (int shift = 24; shift >= 0; shift -= 8) {
                 takeByte(bits >>> shift);
             }
@@ -1309,16 +1312,18 @@ public final class ThresholdBench {
         private void compress() {
             int[] w = schedule;
             for (int k = 16; k < ROUNDS; k++) {
-                int early = w[k - 15];
-                int late = w[k - 2];
-                w[k] = w[k - 16] + (turn(early, 7) ^ turn(early, 18) ^ (early >>> 3))
-                    + w[k - 7] + (turn(late, 17) ^ turn(late, 19) ^ (late >>> 10));
+                int x = w[k - 15];
+                int y = w[k - 2];
+                w[k] = w[k - 16] + ((x >>> 7 | x << 25) ^ (x >>> 18 | x << 14) ^ (x >>> 3))
+                    + w[k - 7] + ((y >>> 17 | y << 15) ^ (y >>> 19 | y << 13) ^ (y >>> 10));
             }
             int a = state[0], b = state[1], c = state[2], d = state[3];
             int e = state[4], f = state[5], g = state[6], h = state[7];
             for (int k = 0; k < ROUNDS; k++) {
-                int one = h + (turn(e, 6) ^ turn(e, 11) ^ turn(e, 25)) + ((e & f) ^ (~e & g)) + ROUND[k] + w[k];
-                int two = (turn(a, 2) ^ turn(a, 13) ^ turn(a, 22)) + ((a & b) ^ (a & c) ^ (b & c));
+                int one = h + ((e >>> 6 | e << 26) ^ (e >>> 11 | e << 21) ^ (e >>> 25 | e << 7))
+                    + ((e & f) ^ (~e & g)) + ROUND[k] + w[k];
+                int two = ((a >>> 2 | a << 30) ^ (a >>> 13 | a << 19) ^ (a >>> 22 | a << 10))
+                    + ((a & b) ^ (a & c) ^ (b & c));
                 h = g;
                 g = f;
                 f = e;
@@ -1328,19 +1333,16 @@ public final class ThresholdBench {
                 b = a;
                 a = one + two;
             }
-            state[0] += a;
-            state[1] += b;
-            state[2] += c;
-            state[3] += d;
-            state[4] += e;
-            state[5] += f;
-            state[6] += g;
-            state[7] += h;
+            addToState(a, b, c, d, 0);
+            addToState(e, f, g, h, 4);
             Arrays.fill(w, 0);
         }
 
-        private static int turn(int word, int by) {
-            return (word >>> by) | (word << (32 - by));
+        private void addToState(int a, int b, int c, int d, int from) {
+            state[from] += a;
+            state[from + 1] += b;
+            state[from + 2] += c;
+            state[from + 3] += d;
         }
     }
 
@@ -1350,8 +1352,8 @@ public final class ThresholdBench {
 
         private final Sha sha = new Sha();
         /** What the next expand() is of. */
-        private final Row input = new Row(COMMITMENT_BYTES + MESSAGE_ROOM);
-        private final Row list = new Row(MOST_PARTICIPANTS * (NUMBER_BYTES + COMMITMENT_BYTES));
+        final Row input = new Row(COMMITMENT_BYTES + MESSAGE_ROOM);
+        final Row list = new Row(MOST_PARTICIPANTS * (NUMBER_BYTES + COMMITMENT_BYTES));
         private final Row start = new Row(NUMBER_BYTES);
         private final Row expanded = new Row(2 * NUMBER_BYTES);
 
@@ -1402,23 +1404,23 @@ public final class ThresholdBench {
 
     /** What one participant has; its points are flat. */
     static final class Participant {
-        private final int[] dealt = new int[NUMBER_WORDS];
-        private final int[] secret = new int[NUMBER_WORDS];
-        private final int[] hiding = new int[NUMBER_WORDS];
-        private final int[] binding = new int[NUMBER_WORDS];
-        private final Point key = new Point();
-        private final Point hidingPoint = new Point();
-        private final Point bindingPoint = new Point();
+        final int[] dealt = new int[NUMBER_WORDS];
+        final int[] secret = new int[NUMBER_WORDS];
+        final int[] hiding = new int[NUMBER_WORDS];
+        final int[] binding = new int[NUMBER_WORDS];
+        final Point key = new Point();
+        final Point hidingPoint = new Point();
+        final Point bindingPoint = new Point();
     }
 
     /** A chosen set, as bits, and all that hangs on it; commitment is R. */
     static final class Signing {
-        private int set;
-        private int given;
-        private final Point commitment = new Point();
-        private final int[] challenge = new int[NUMBER_WORDS];
-        private final int[][] factors = new int[MOST_PARTICIPANTS][NUMBER_WORDS];
-        private final int[][] weights = new int[MOST_PARTICIPANTS][NUMBER_WORDS];
-        private final int[][] shares = new int[MOST_PARTICIPANTS][NUMBER_WORDS];
+        int set;
+        int given;
+        final Point commitment = new Point();
+        final int[] challenge = new int[NUMBER_WORDS];
+        final int[][] factors = new int[MOST_PARTICIPANTS][NUMBER_WORDS];
+        final int[][] weights = new int[MOST_PARTICIPANTS][NUMBER_WORDS];
+        final int[][] shares = new int[MOST_PARTICIPANTS][NUMBER_WORDS];
     }
 }
