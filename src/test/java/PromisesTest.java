@@ -615,6 +615,18 @@ final class PromisesTest {
         Check.due("3 is wrong", x.right(3), false);
         Check.due("together they hold", x.gather(), 0);
         Check.due("the sum", Check.output(x).substring(66), hex(one.add(three).mod(Reference.Q)));
+        x.choose(5);
+        Check.due("chosen again, none has given one", x.gather(), 5);
+        x.choose(5);
+        Check.due("and once more", x.gather(), 5);
+        String r = Check.output(x);
+        BigInteger sum = one.add(three);
+        Check.feed(x, hex(Reference.Q.add(BigInteger.TEN)));
+        x.other(1);
+        Check.feed(x, hex(sum.subtract(BigInteger.TEN).mod(Reference.Q)));
+        x.other(3);
+        Check.due("one is not below q, though the sum would hold", x.gather(), 5);
+        Check.due("the output stays", Check.output(x), r);
     }
 
     private static boolean holds(ThresholdBench x, String tape) {
@@ -645,6 +657,11 @@ final class PromisesTest {
             "02" + Check.number(5) + signature.substring(66), signature.substring(0, 66) + Q,
             signature.substring(0, 66) + MOST, signature.substring(0, 66) + Check.number(0)}) {
             Check.due("holds " + tape, holds(x, tape), false);
+        }
+        for (int bits : new int[] {2, 4, 6, 128, 254}) {
+            byte[] row = Check.bytes(signature);
+            row[0] ^= (byte) bits;
+            Check.due("neither 2 nor 3 first", holds(x, hex(row)), row[0] == 2 || row[0] == 3);
         }
         holdsByTheSecret(x, BigInteger.valueOf(5));
         Check.feed(x, "00");
