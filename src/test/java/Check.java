@@ -2,10 +2,31 @@ import java.util.HexFormat;
 
 /** What the tests have in common: counting answers, feeding bytes, reading the output. */
 final class Check {
+    private static final int MOST_SECONDS = 600;
+
     private static int looked = 0;
     private static int wrong = 0;
+    private static int sentences = 0;
+    private static String sentence = "";
+
+    static {
+        Thread watch = new Thread(Check::endAfterAll);
+        watch.setDaemon(true);
+        watch.start();
+    }
 
     private Check() {
+    }
+
+    /** A call that does not end makes the test fail; it does not keep it for ever. */
+    private static void endAfterAll() {
+        try {
+            Thread.sleep(1000L * MOST_SECONDS);
+        } catch (InterruptedException e) {
+            return;
+        }
+        System.out.println(sentence + "no end after " + MOST_SECONDS + " seconds");
+        Runtime.getRuntime().halt(1);
     }
 
     static void due(String what, long got, long want) {
@@ -20,8 +41,14 @@ final class Check {
         looked++;
         if (!got.equals(want)) {
             wrong++;
-            System.out.println(what + " answered " + got + ", due is " + want);
+            System.out.println(sentence + what + " answered " + got + ", due is " + want);
         }
+    }
+
+    /** What follows tests this sentence of the document: it is told with each answer that is not as due. */
+    static void sentence(String place, String words) {
+        sentences++;
+        sentence = place + ", \"" + words + "\": ";
     }
 
     static boolean allRight() {
@@ -29,7 +56,8 @@ final class Check {
     }
 
     static void end() {
-        System.out.println(looked + " answers, " + wrong + " not as due");
+        System.out.println((sentences == 0 ? "" : sentences + " sentences, ") + looked + " answers, "
+            + wrong + " not as due");
         if (wrong != 0 || looked == 0) {
             System.exit(1);
         }
@@ -61,38 +89,11 @@ final class Check {
         return String.format("%064x", value);
     }
 
-    static void feed(ThresholdBench x, String hex) {
-        feed(x, bytes(hex));
-    }
-
-    static void feed(ThresholdBench x, byte[] row) {
-        for (int at = 0; at < row.length; at += 20) {
-            int n = Math.min(20, row.length - at);
-            int[] words = words(row, at, n);
-            x.feed(n, words[0], words[1], words[2], words[3], words[4]);
-        }
-    }
-
     static int[] words(byte[] row, int at, int n) {
         int[] words = new int[5];
         for (int k = 0; k < n; k++) {
             words[k / 4] |= (row[at + k] & 255) << (24 - 8 * (k % 4));
         }
         return words;
-    }
-
-    static String output(ThresholdBench x) {
-        StringBuilder hex = new StringBuilder();
-        for (int k = 0; x.output(k) != ThresholdBench.NONE; k++) {
-            hex.append(String.format("%02x", x.output(k)));
-        }
-        return hex.toString();
-    }
-
-    static String show(ThresholdBench x, int what, int i) {
-        int count = x.show(what, i);
-        String out = output(x);
-        due("show(" + what + ", " + i + ") counts its output", count, out.length() / 2);
-        return out;
     }
 }

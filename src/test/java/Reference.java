@@ -4,6 +4,9 @@ import java.nio.charset.StandardCharsets;
 import java.security.MessageDigest;
 import java.security.NoSuchAlgorithmException;
 import java.util.Arrays;
+import java.util.HashMap;
+import java.util.List;
+import java.util.Map;
 
 /** The document once more, word by word, with the Java library's numbers and digest: slow and plain. */
 final class Reference {
@@ -14,6 +17,7 @@ final class Reference {
         new BigInteger("55066263022277343669578718895168534326250603453777594175500187360389116729240"),
         new BigInteger("32670510020758816978083085130507043184471273380659243275938904335757337482424")
     };
+    private static final Map<List<BigInteger>, BigInteger[]> KNOWN = new HashMap<>();
     private static final String C = "FROST-secp256k1-SHA256-v1";
 
     byte[] tape = {};
@@ -355,7 +359,21 @@ final class Reference {
         return new BigInteger[] {x, m.multiply(a[0].subtract(x)).subtract(a[1]).mod(P)};
     }
 
+    /** Runs that are made anew ask for the same products many times, and each takes milliseconds. */
     static BigInteger[] times(BigInteger s, BigInteger[] point) {
+        if (point == null) {
+            return null;
+        }
+        List<BigInteger> asked = List.of(s, point[0], point[1]);
+        BigInteger[] known = KNOWN.get(asked);
+        if (known == null && !KNOWN.containsKey(asked)) {
+            known = reckonTimes(s, point);
+            KNOWN.put(asked, known);
+        }
+        return known;
+    }
+
+    private static BigInteger[] reckonTimes(BigInteger s, BigInteger[] point) {
         BigInteger[] sum = null;
         for (int bit = s.bitLength() - 1; bit >= 0; bit--) {
             sum = sum(sum, sum);

@@ -18,35 +18,35 @@ final class VectorTest {
     }
 
     public static void main(String[] args) {
-        ThresholdBench x = new ThresholdBench();
-        Check.feed(x, "74657374");
+        Bench x = new Bench();
+        x.feed("74657374");
         x.message();
-        Check.feed(x, SECRET + COEFFICIENT);
+        x.feed(SECRET + COEFFICIENT);
         x.deal(2, 3);
-        Check.due("group key", Check.show(x, 0, 0),
+        Check.due("group key", x.shown(0, 0),
             "02f37c34b66ced1fb51c34a90bdae006901f10625cc06c4f64663b0eae87d87b4f");
-        Check.due("secret 1", Check.show(x, 2, 1),
+        Check.due("secret 1", x.shown(2, 1),
             "08f89ffe80ac94dcb920c26f3f46140bfc7f95b493f8310f5fc1ea2b01f4254c");
-        Check.due("secret 2", Check.show(x, 2, 2),
+        Check.due("secret 2", x.shown(2, 2),
             "04f0feac2edcedc6ce1253b7fab8c86b856a797f44d83d82a385554e6e401984");
-        Check.due("secret 3", Check.show(x, 2, 3),
+        Check.due("secret 3", x.shown(2, 3),
             "00e95d59dd0d46b0e303e500b62b7ccb0e555d49f5b849f5e748c071da8c0dbc");
-        Check.feed(x, RANDOM_1);
+        x.feed(RANDOM_1);
         x.commit(1);
-        Check.due("commitment 1", Check.show(x, 4, 1),
+        Check.due("commitment 1", x.shown(4, 1),
             "03c699af97d26bb4d3f05232ec5e1938c12f1e6ae97643c8f8f11c9820303f1904"
             + "02fa2aaccd51b948c9dc1a325d77226e98a5a3fe65fe9ba213761a60123040a45e");
-        Check.feed(x, RANDOM_3);
+        x.feed(RANDOM_3);
         x.commit(3);
         x.choose(5);
-        Check.due("binding factor 1", Check.show(x, 5, 1),
+        Check.due("binding factor 1", x.shown(5, 1),
             "3e08fe561e075c653cbfd46908a10e7637c70c74f0a77d5fd45d1a750c739ec6");
         x.share(1);
         x.share(3);
         Check.due("gather()", x.gather(), 0);
-        Check.due("R", Check.output(x).substring(0, 66),
+        Check.due("R", x.output().substring(0, 66),
             "0205b6d04d3774c8929413e3c76024d54149c372d57aae62574ed74319b5ea14d0");
-        Check.due("signature", Check.output(x), referenceSignature());
+        Check.due("signature", x.output(), referenceSignature());
         Check.end();
     }
 
