@@ -151,7 +151,7 @@ final class AnyCallTest extends Runs {
     }
 
     private static Step feed(int n) {
-        return new Step("feed(" + n + ", ..)", x -> x.feed(n, MIN, -1, 0, MAX, 1 << 31), y -> y.feed(n, MIN, -1, 0, MAX, 1 << 31));
+        return new Step("feed(" + n + ", ..)", x -> x.feed(n, MIN, -1, 0, MAX, 255), y -> y.feed(n, MIN, -1, 0, MAX, 255));
     }
 
     private static List<Step> feed(String tape) {
@@ -201,7 +201,8 @@ final class AnyCallTest extends Runs {
         states.put("fewer are dealt anew", way(
             by(Check.number(3).repeat(8), deal(8, 8)), by(chance(8), commit(8)), by(chance(7), commit(7)), all,
             by(Check.number(9).repeat(2), deal(2, 2)), by(chance(2), commit(2))));
-        states.put("eight of eight", way(by(Check.number(3).repeat(8), deal(8, 8)), allOfEight(), List.of(choose(255), share(8))));
+        states.put("eight of eight", way(
+            by(Check.number(3).repeat(8), deal(8, 8)), allOfEight(), List.of(choose(255), share(8))));
         return states;
     }
 
@@ -214,8 +215,8 @@ final class AnyCallTest extends Runs {
     }
 
     private static List<String> tapes() {
-        List<String> tapes = new ArrayList<>(List.of("", "00", "ff".repeat(31), Check.number(0), Check.number(12), Q, BELOW_Q,
-            MOST, "01".repeat(33), "02" + Check.number(1), "00".repeat(63), "00".repeat(64), "ff".repeat(64),
+        List<String> tapes = new ArrayList<>(List.of("", "00", "ff".repeat(31), Check.number(0), Check.number(12), Q,
+            BELOW_Q, MOST, "01".repeat(33), "02" + Check.number(1), "00".repeat(63), "00".repeat(64), "ff".repeat(64),
             Check.number(5) + Check.number(9), BELOW_Q + Check.number(2), BELOW_Q + Check.number(1)));
         for (int head : new int[] {0, 2, 3, 255}) {
             String first = String.format("%02x", head);

@@ -16,6 +16,7 @@ final class ArithmeticTest {
         fieldInverses();
         fieldConversions();
         scalars();
+        scalarsThatFoldLong();
         fractions();
         expandedBytes();
         pointSums();
@@ -188,6 +189,26 @@ final class ArithmeticTest {
         Check.due("q is no scalar", ThresholdBench.Scalars.isScalar(words(Q)), false);
         Check.due("q - 1 is one", ThresholdBench.Scalars.isScalar(words(Q.subtract(BigInteger.ONE))), true);
         Check.due("q + 2^32 is none", ThresholdBench.Scalars.isScalar(words(Q.add(BigInteger.TWO.pow(32)))), false);
+    }
+
+    /** A product that comes down below 2^256 only when what is above has been folded in four times. */
+    private static void scalarsThatFoldLong() {
+        BigInteger over = BigInteger.TWO.pow(256).subtract(Q);
+        BigInteger most = BigInteger.TWO.pow(256).subtract(BigInteger.ONE);
+        for (int off = 0; off < 4; off++) {
+            BigInteger thirdFold = BigInteger.TWO.pow(257).subtract(BigInteger.valueOf(off + 1));
+            BigInteger above = over.multiply(BigInteger.valueOf(4)).divide(BigInteger.valueOf(5));
+            BigInteger secondFold = above.shiftLeft(256).add(thirdFold.subtract(above.multiply(over)));
+            BigInteger[] firstFold = secondFold.divideAndRemainder(over);
+            BigInteger wide = firstFold[0].shiftLeft(256).add(firstFold[1]);
+            for (BigInteger a : new BigInteger[] {most, Q.subtract(BigInteger.ONE), Q.subtract(BigInteger.TEN)}) {
+                BigInteger[] parts = wide.divideAndRemainder(a);
+                Check.due("the factor is below 2^256", parts[0].bitLength() <= 256, true);
+                int[] out = new int[8];
+                new ThresholdBench.Scalars().multiplyAndAdd(out, words(a), words(parts[0]), words(parts[1]));
+                Check.due("four folds", value(out).toString(), wide.mod(Q).toString());
+            }
+        }
     }
 
     private static void fractions() {

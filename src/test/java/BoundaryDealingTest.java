@@ -3,7 +3,8 @@ import java.math.BigInteger;
 /** The boundary cases of promises 4 to 6, sentence by sentence: dealing, changing, committing. */
 final class BoundaryDealingTest extends Runs {
     private static final BigInteger ONE = BigInteger.ONE;
-    private static final int[] NOT_OF_3 = {0, -1, 4, 5, 8, 9, 33, 257, Integer.MAX_VALUE, Integer.MIN_VALUE};
+    private static final int[] NOT_OF_3 = {0, -1, -31, 4, 5, 8, 9, 33, 257, Integer.MAX_VALUE, Integer.MIN_VALUE,
+        Integer.MIN_VALUE + 1};
 
     private BoundaryDealingTest() {
     }

@@ -5,12 +5,14 @@ final class BoundarySigningTest extends Runs {
     private static final BigInteger ONE = BigInteger.ONE;
     /** The largest number that 32 bytes can tell also with q more. */
     private static final BigInteger LARGEST_WITH_Q = BigInteger.TWO.pow(256).subtract(ONE).subtract(Reference.Q);
-    private static final int[] NOT_OF_3 = {0, -1, 4, 5, 8, 9, 33, 257, Integer.MAX_VALUE, Integer.MIN_VALUE};
+    private static final int[] NOT_OF_3 = {0, -1, -31, 4, 5, 8, 9, 33, 257, Integer.MAX_VALUE, Integer.MIN_VALUE,
+        Integer.MIN_VALUE + 1};
 
     private BoundarySigningTest() {
     }
 
     public static void main(String[] args) {
+        fromTheLowestOn();
         asTheCommitmentsAreNow();
         rIsOutputNobodyHasGiven();
         chooseNothingDealt();
@@ -35,6 +37,7 @@ final class BoundarySigningTest extends Runs {
         allSharesBelowQ();
         theSignatureHolds();
         notRightOrNotGiven();
+        givenForAnotherSet();
         gatherNoSet();
         holdsEmptiesTheTape();
         falseForAnotherLength();
@@ -74,6 +77,36 @@ final class BoundarySigningTest extends Runs {
             x.share(i);
             Check.due("right", x.right(i), true);
         }
+    }
+
+    /** The order in which they have committed does not matter. */
+    private static void fromTheLowestOn() {
+        Check.sentence("Terms", "LIST is, for each of the set, from the lowest on: its number as 32 bytes, its hiding and "
+            + "its binding point as 33 bytes each");
+        int[][] orders = {{1, 2, 3, 4, 5, 6, 7, 8}, {8, 7, 6, 5, 4, 3, 2, 1}, {3, 8, 1, 6, 2, 7, 5, 4}};
+        for (int[] order : orders) {
+            Bench x = dealt(8, 5, 7);
+            commit(x, order);
+            for (int set : new int[] {3, 129, 192, 255}) {
+                x.choose(set);
+                StringBuilder list = new StringBuilder();
+                for (int i = 1; i <= 8; i++) {
+                    list.append((set >> (i - 1) & 1) == 1 ? Check.number(i) + x.shown(4, i) : "");
+                }
+                for (int i = 1; i <= 8; i++) {
+                    String want = (set >> (i - 1) & 1) == 1 ? bindingFactor(x.shown(0, 0), list.toString(), i) : "none";
+                    Check.due("binding factor of " + i, x.show(5, i) == 0 ? "none" : x.output(), want);
+                }
+            }
+        }
+    }
+
+    /** For a message without bytes. */
+    private static String bindingFactor(String key, String list, int i) {
+        byte[] message = Reference.sha(Reference.text("FROST-secp256k1-SHA256-v1msg"));
+        byte[] commitments = Reference.sha(Reference.text("FROST-secp256k1-SHA256-v1com"), Check.bytes(list));
+        byte[] all = Reference.join(Check.bytes(key), message, commitments, Check.bytes(Check.number(i)));
+        return hex(Reference.expand(all, "rho"));
     }
 
     private static void rIsOutputNobodyHasGiven() {
@@ -338,7 +371,11 @@ final class BoundarySigningTest extends Runs {
         other(highest, 1, BELOW_Q);
         Check.due("q - 1 is right", highest.right(1), true);
         other(highest, 3, MOST);
+        highest.feed("1234");
+        String before = highest.state() + highest.tape();
         Check.due("2^256 - 1 is not", highest.right(3), false);
+        Check.due("q - 1 is right still", highest.right(1), true);
+        Check.due("looking changes nothing", highest.state() + highest.tape(), before);
     }
 
     private static void rightNoSet() {
@@ -449,6 +486,31 @@ final class BoundarySigningTest extends Runs {
         }
     }
 
+    /** Shares of sets that were chosen before do not count, however right they would be. */
+    private static void givenForAnotherSet() {
+        Check.sentence("Promise 11", "and those who have given none");
+        Bench x = chosen();
+        String first = hex(shareOf(x, 1));
+        String third = hex(shareOf(x, 3));
+        for (int turn = 0; turn < 3; turn++) {
+            other(x, 1, first);
+            other(x, 3, third);
+            Check.due("all have given", x.gather(), 0);
+            for (int again = 0; again < 3; again++) {
+                x.choose(5);
+                Check.due("chosen again, none has", x.gather(), 5);
+                Check.due("none is told", x.about(4), 0);
+            }
+            other(x, 3, third);
+            Check.due("3 alone has", x.gather(), 1);
+            x.choose(5);
+            Check.due("and has not now", x.gather(), 5);
+            other(x, 1, first);
+            Check.due("1 alone has", x.gather(), 4);
+            x.choose(5);
+        }
+    }
+
     private static void give(Bench x, int i, int kind) {
         if (kind == 1) {
             x.share(i);
@@ -530,6 +592,28 @@ final class BoundarySigningTest extends Runs {
         Check.due("nothing else changes", x.state(), before);
         x.feed(signature);
         Check.due("65 bytes", x.holds(), true);
+        String endsIn0 = signatureThatEndsIn0();
+        x.feed(endsIn0);
+        Check.due("65 bytes, the last of them 0", x.holds(), true);
+        x.feed(endsIn0.substring(0, 128));
+        Check.due("without that 0", x.holds(), false);
+    }
+
+    /** For "test" and the group key 5 * G: R is k * G, and z is k + c * 5, for the first k that makes such a z. */
+    private static String signatureThatEndsIn0() {
+        BigInteger five = BigInteger.valueOf(5);
+        byte[] key = Check.bytes(hexOfPoint(five));
+        BigInteger[] r = null;
+        for (long k = 1; k < 100_000; k++) {
+            r = Reference.sum(r, Reference.G);
+            byte[] row = Reference.bytes(r);
+            BigInteger c = Reference.expand(Reference.join(row, key, Reference.text("test")), "chal");
+            BigInteger z = c.multiply(five).add(BigInteger.valueOf(k)).mod(Reference.Q);
+            if (z.byteValue() == 0) {
+                return hex(row) + hex(z);
+            }
+        }
+        throw new AssertionError("none was found");
     }
 
     private static void holdsNothingDealt() {

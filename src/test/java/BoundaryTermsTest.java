@@ -53,6 +53,29 @@ final class BoundaryTermsTest extends Runs {
         same512th("show(4, 3)", x -> { }, x -> x.show(4, 3));
         same512th("choose(7)", x -> { }, x -> { x.choose(7); return 0; });
         same512th("other(1)", x -> x.feed("00"), x -> { x.other(1); return 0; });
+        sameUpTo512th("output()", x -> x.output(32));
+        sameUpTo512th("about()", x -> x.about(3));
+        sameUpTo512th("show()", x -> x.show(5, 3));
+        sameUpTo512th("feed() of none", x -> x.feed(0, 1, 2, 3, 4, 5));
+        sameUpTo512th("message()", Bench::message);
+        sameUpTo512th("holds()", Bench::holds);
+        sameUpTo512th("gather()", Bench::gather);
+        sameUpTo512th("choose()", x -> { x.choose(5); return 0; });
+        sameUpTo512th("deal() by nothing", x -> { x.deal(2, 3); return 0; });
+        sameUpTo512th("change() by nothing", x -> x.change(1));
+        sameUpTo512th("commit() by nothing", x -> { x.commit(1); return 0; });
+        sameUpTo512th("share() of none", x -> { x.share(4); return 0; });
+        sameUpTo512th("other() by nothing", x -> { x.other(1); return 0; });
+        sameUpTo512th("right() of one who gave none", x -> x.right(1));
+    }
+
+    /** The same call over and over answers the same up to the 512th. */
+    private static void sameUpTo512th(String what, Function<Bench, Object> call) {
+        Bench x = chosen();
+        String want = Check.answer(() -> call.apply(x));
+        while (x.calls() < Bench.MOST_CALLS) {
+            Check.due(what, Check.answer(() -> call.apply(x)), want);
+        }
     }
 
     private static String signature() {
