@@ -7,7 +7,10 @@ import java.nio.file.Path;
 import java.util.ArrayList;
 import java.util.Arrays;
 import java.util.List;
+import java.util.Set;
 import java.util.TreeSet;
+import java.util.regex.Matcher;
+import java.util.regex.Pattern;
 
 /** The public face, as the document has it, and the rules of LANGUAGE.md that can be seen from outside. */
 final class FaceTest {
@@ -24,6 +27,12 @@ final class FaceTest {
     };
     private static final String[] REFUSED = {"->", "::", "synchronized", "assert ", "finally", "try ", "catch ",
         "Math.", "Object", "float ", "double ", "public static void main", "getClass", "hashCode", "toString"};
+
+    /** All that the class uses of what rule 4 leaves. */
+    private static final Set<String> LIBRARY = Set.of("Arrays.fill", "System.arraycopy", "Integer.bitCount");
+    private static final Set<Class<?>> CONSTANTS = Set.of(int.class, long.class, boolean.class, char.class,
+        String.class, int[].class, long[].class, char[].class, byte[].class);
+    private static final int MOST_LINES = 60;
 
     private FaceTest() {
     }
@@ -87,6 +96,7 @@ final class FaceTest {
                 boolean fixed = Modifier.isStatic(field.getModifiers());
                 own += fixed ? 0 : 1;
                 Check.due(field + " is final if static", !fixed || Modifier.isFinal(field.getModifiers()), true);
+                Check.due(field + " may be static", !fixed || CONSTANTS.contains(field.getType()), true);
             }
             Check.due(any + " has at most twenty fields", own <= 20, true);
             if (any != ThresholdBench.class) {
@@ -107,6 +117,36 @@ final class FaceTest {
             if (line.startsWith("import ") || line.startsWith("package ")) {
                 Check.due("import", line, "import java.util.Arrays;");
             }
+            if (line.contains("throw ")) {
+                String thrown = line.trim().replaceAll("IllegalState|IllegalArgument|IndexOutOfBounds", "..");
+                Check.due("a throw", thrown, "throw new ..Exception();");
+            }
         }
+        library(code.replaceAll("import [^\n]*", ""));
+        lengths(code);
+    }
+
+    private static void library(String code) {
+        Set<String> own = new TreeSet<>();
+        for (Class<?> any : all()) {
+            own.add(any.getSimpleName());
+        }
+        Matcher used = Pattern.compile("\\b([A-Z]\\w*[a-z]\\w*)\\.(\\w+)").matcher(code);
+        while (used.find()) {
+            boolean fine = own.contains(used.group(1)) || LIBRARY.contains(used.group());
+            Check.due(used.group() + " is of the class or of rule 4", fine, true);
+        }
+    }
+
+    /** A method begins with a line that ends with a brace, and ends with a brace at the same place. */
+    private static void lengths(String code) {
+        Matcher method = Pattern.compile("(?m)^( {4}| {8})(?=\\w)[^\\n;=]*\\([^;{]*\\{\\n(?s:.*?)\\n\\1\\}$").matcher(code);
+        int methods = 0;
+        while (method.find()) {
+            methods++;
+            String head = method.group().split("\n")[0].trim();
+            Check.due(head + " is short", method.group().split("\n").length <= MOST_LINES, true);
+        }
+        Check.due("methods are found", methods > 80, true);
     }
 }
