@@ -45,7 +45,7 @@ final class WoundedRuns extends Runs {
     }
 
     private static void theWound() {
-        Check.sentence("WoundedTest", "H1 and H2 are 1, and H3 is what the bytes say");
+        // If this fails, WoundedTest's line does not do what it is for.
         Bench x = dealt(3, A0, 7);
         commit(x, 1, 2, 3);
         commit(x, 3, 4, -6);
@@ -57,7 +57,7 @@ final class WoundedRuns extends Runs {
     }
 
     private static void nonceOfZero() {
-        Check.sentence("Promise 6", "IllegalArgumentException: the tape has not 64 bytes, or a nonce is 0.");
+        Check.sentence("Promise 6", "or a nonce is 0");
         Bench fresh = dealt(3, A0, 7);
         Bench committed = dealt(3, A0, 7);
         commit(committed, 1, 2, 3);
@@ -79,7 +79,7 @@ final class WoundedRuns extends Runs {
     }
 
     private static void nonceNextToZero() {
-        Check.sentence("Promise 6", "or a nonce is 0: others are taken");
+        Check.sentence("Promise 6", "or a nonce is 0");
         long[] taken = {1, -1};
         for (long hiding : taken) {
             for (long binding : taken) {
@@ -96,7 +96,7 @@ final class WoundedRuns extends Runs {
 
     /** Hiding and binding of 1, 2, and so on; they come to ZERO in each of these. */
     private static void commitmentsThatCancel() {
-        Check.sentence("Promise 7", "IllegalArgumentException: [..] or they are fewer than T, or R is ZERO.");
+        Check.sentence("Promise 7", "or R is ZERO");
         long[][] rows = {
             {2, 3, -2, -3}, {2, 3, -3, -2}, {2, -2, 3, -3}, {1, 1, 1, -3}, {7, 7, -7, -7}, {1, 1, 2, 2, -3, -3},
             {5, -1, 5, -1, -4, -4}, {1, 2, -1, -2, 3, -3}, {1, 1, 1, 1, 1, 1, 1, -7}
@@ -120,7 +120,7 @@ final class WoundedRuns extends Runs {
     }
 
     private static void cancellingAfterAnotherSet() {
-        Check.sentence("Terms", "What throws changes nothing but the tape.");
+        Check.sentence("Terms", "What throws changes nothing but the tape");
         Bench x = dealt(3, A0, 7);
         commit(x, 1, 2, 3);
         commit(x, 2, 4, 5);
@@ -160,7 +160,7 @@ final class WoundedRuns extends Runs {
     }
 
     private static void signatureNotBelowQ() {
-        Check.sentence("Terms", "It HOLDS [..] if the first is a point, the second below q");
+        Check.sentence("Terms", "the second below q");
         Bench x = dealt(3, A0, 7);
         BigInteger most = number(MOST).subtract(Q_NUMBER);
         for (BigInteger z : new BigInteger[] {BigInteger.ONE, BigInteger.TEN, most.subtract(BigInteger.ONE), most}) {
@@ -172,7 +172,7 @@ final class WoundedRuns extends Runs {
     }
 
     private static void signatureOfZero() {
-        Check.sentence("Terms", "z * G is R + c * key, both being ZERO");
+        Check.sentence("Terms", "of (x, y) and (x, p - y) ZERO");
         Bench x = dealt(3, A0, 7);
         Check.due("z 0", holds(x, point(-A0) + ZERO), true);
         Check.due("z 1", holds(x, point(-A0) + scalar(1)), false);
@@ -190,7 +190,7 @@ final class WoundedRuns extends Runs {
     }
 
     private static void gatheredZero() {
-        Check.sentence("Promise 11", "it is output (65 bytes): 0.");
+        Check.sentence("Promise 11", "it is output (65 bytes): 0");
         Bench x = dealt(3, A0, 7);
         commit(x, 1, 1, 1);
         commit(x, 3, 1, -8);
@@ -206,7 +206,7 @@ final class WoundedRuns extends Runs {
 
     /** The factor of a point with a small x is not known, so the key is put where the two make up a known one. */
     private static void pointNotBelowP() {
-        Check.sentence("Terms", "if the first is a point: (x, y), 0 .. p - 1 each");
+        Check.sentence("Terms", "the points (x, y), 0 .. p - 1 each");
         int z = 77;
         for (String head : new String[] {"02", "03"}) {
             BigInteger[] small = Reference.point(Check.bytes(head + scalar(1)));
